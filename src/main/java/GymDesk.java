@@ -700,6 +700,8 @@ public final class GymDesk {
         static final int SPAN_WORD = 17;
         static final int LAND_WORD = 18;
         private static final int WORDS = 19;
+        private static final int BITS_OF_LETTER = 5;
+        private static final int BEFORE_A = 'a' - 1;
         /** The words that are no names, in the order of their numbers above. */
         private static final String QUOTED =
             "part link group limit counts short fault panel team final in as needs worth of less each span land ";
@@ -724,7 +726,7 @@ public final class GymDesk {
                 if (QUOTED.charAt(c) == ' ') {
                     w++;
                 } else {
-                    quoted[w] = withLetter(quoted[w], QUOTED.charAt(c));
+                    quoted[w] = quoted[w] << BITS_OF_LETTER | (QUOTED.charAt(c) - BEFORE_A);
                 }
             }
         }
@@ -761,7 +763,7 @@ public final class GymDesk {
         private void nextWord() {
             word = 0;
             while (at < length && text[at] >= 'a' && text[at] <= 'z') {
-                word = withLetter(word, text[at]);
+                word = word << BITS_OF_LETTER | (text[at] - BEFORE_A);
                 at++;
             }
             type = at - start <= MOST_LETTERS ? WORD : NO_TOKEN;
@@ -786,10 +788,6 @@ public final class GymDesk {
 
         boolean isName() {
             return type == WORD && quotedWord == NONE;
-        }
-
-        private static long withLetter(long word, int letter) {
-            return word << 5 | (letter - 'a' + 1);
         }
     }
 

@@ -182,6 +182,57 @@ public final class PromiseTest {
         due("no parts then", x.part(0, 0), -1);
     }
 
+    private static void aSecondMeeting() {
+        promise = 4;
+        String text = "part a 3 in 0; part b 4 in 1; fault f 2; fault h 3 each; link a b 1; short 2 less 3;"
+            + "group 2 needs 1 worth 1; limit 1 of 3;";
+        GymDesk x = under(text);
+        for (int g = 0; g < 3; g++) {
+            x.enter(0);
+            x.withdraw(g, 4);
+            performBy(x, g, 0, 9, 0, 1, 0);
+            x.see(g, 0, 0, 0, 0);
+            x.see(g, 0, 0, 1, 1);
+        }
+        x.post(0, 0, 50);
+        x.inquire(0, 0, 51);
+        x.routine(1, 0, 1);
+        x.begin(1, 1);
+        for (int j = 0; j < 4; j++) {
+            x.mark(1, 1, j, 30 * j);
+        }
+        due("some are asked", x.asked(1, 1), 13);
+        due("a code of less", code(x, "part a 3 in 0;"), 1);
+        due("the code of before once more", code(x, text), 2);
+        due("its links alone", x.count(1), 1);
+        due("its faults alone", x.count(2), 2);
+        due("links from a", x.part(0, 3), 1);
+        due("a code of less once more", code(x, "part c 5 in 0;"), 1);
+        int[] first = {1, 0, 0, 4, 3, 8, 0, 0, 4, 3, 8, 2};
+        for (int what = 0; what < first.length; what++) {
+            due("count(" + what + ") of it", x.count(what), first[what]);
+        }
+        due("no needs", x.count(22), 0);
+        due("nor their worth", x.count(32), 0);
+        due("no limit", x.count(43), -1);
+        code(x, text);
+        for (int g = 0; g < 3; g++) {
+            x.enter(7);
+            due("none has withdrawn", x.withdraw(g, 4), 1);
+            x.begin(g, 0);
+            int[] fresh = {0, 0, 0, 0, 0, 0, 0, 0, -9, -9, -9};
+            for (int what = 0; what < fresh.length; what++) {
+                due("a fresh routine's " + what, x.routine(g, 0, what), fresh[what]);
+            }
+        }
+        x.begin(1, 1);
+        due("none asked", x.asked(1, 1), 0);
+        x.mark(1, 1, 0, 5);
+        due("nor behind a mark", x.asked(1, 1), 0);
+        due("judge 1 hasn't marked", x.mark(1, 1, 1, 5), 2);
+        due("fees", x.fees(0), 0);
+    }
+
     private static void syntaxAndNames() {
         promise = 5;
         String[] quoted = ("part in as link group needs worth limit of counts short less fault each panel span team"
@@ -232,7 +283,13 @@ public final class PromiseTest {
         bad("part abcdefghijk", 1, 5);
         bad("partpartpartpart a", 1, 0);
         bad("part a 3 in 0; part a", 2, 20);
+        bad("part a 1 in 0; link a a 1 1", 1, 26);
+        bad("part a 1 in 0; link a a 1", 1, 25);
+        bad("fault a 1", 1, 9);
+        bad("fault z 1; fault z", 2, 17);
+        bad("part azb 1 in 0; part azb", 2, 22);
         good("fault a 3; part a 3 in 0; link a a 1;", 1);
+        good("part z 1 in 0; part zz 1 in 0; part az 1 in 0;", 3);
         good("part a 3 in 0;part b 3in 0as a;", 2);
         good("counts\n001 ;", 0);
         good("part partx 1 in 0; part xpart 1 in 0; part lan 1 in 0; part landd 1 in 0;", 4);
@@ -297,6 +354,9 @@ public final class PromiseTest {
         bad("panel 3 span 3; panel", 5, 16);
         bad("team 3 of 3; team", 5, 13);
         bad("final 3 land 3; final", 5, 16);
+        bad("counts 3; team 3 of 3; final 3 land 3; counts", 5, 39);
+        bad("group 0 needs 1 worth 1; group 1 needs 1 worth 1; group 0", 5, 56);
+        bad("limit 1 of 0; limit 1 of 1; limit 1 of 0", 5, 39);
     }
 
     private static String many(String line, int times) {
@@ -626,6 +686,31 @@ public final class PromiseTest {
         // a and b by their link; of 8 .. 15 all but one of group 0, since a and two of 10, 15 are too many.
         due("D of 16 entries", x.routine(0, 0, 1), 5 + 5 + 9 + 7 * 6 + 5);
         due("choice of 16 entries", x.routine(0, 0, 2), 3 | 4 | 0x7f00);
+    }
+
+    private static void evenGroups() {
+        promise = 14;
+        StringBuilder text = new StringBuilder();
+        for (int p = 0; p < 16; p++) {
+            text.append("part ").append((char) ('a' + p)).append(" 1 in ").append(p % 5).append(';');
+        }
+        GymDesk x = under(text + "counts 10;");
+        x.enter(0);
+        x.begin(0, 0);
+        for (int p = 0; p < 16; p++) {
+            x.entry(0, 0, p);
+            due("D of " + (p + 1), x.routine(0, 0, 1), Math.min(p + 1, 10));
+            due("choice of " + (p + 1), x.routine(0, 0, 2), (1 << Math.min(p + 1, 10)) - 1);
+        }
+        GymDesk y = under(text + "counts 10; group 4 needs 3 worth 1; link o p 1; limit 3 of 0;");
+        y.enter(0);
+        y.begin(0, 0);
+        for (int p = 0; p < 16; p++) {
+            y.entry(0, 0, p);
+        }
+        // e, j and o meet the need, p has its link: six more from a on, but of a, f, k and p not all.
+        due("D of the last two", y.routine(0, 0, 1), 12);
+        due("choice of the last two", y.routine(0, 0, 2), 0xc200 | 0x7f);
     }
 
     private static void routine() {
@@ -1006,6 +1091,7 @@ public final class PromiseTest {
         feed();
         end();
         codeTakesAText();
+        aSecondMeeting();
         syntaxAndNames();
         numbersAndTwice();
         roomAndTheLatestFault();
@@ -1021,6 +1107,7 @@ public final class PromiseTest {
         choices();
         linksAndGroups();
         manyEntries();
+        evenGroups();
         routine();
         inquire();
         answer();
