@@ -1,5 +1,3 @@
-import java.nio.charset.StandardCharsets;
-
 /** Each promise of the document by hand: ordinary calls, the edges it names, and wrong arguments. */
 public final class PromiseTest {
     private static int checks = 0;
@@ -14,68 +12,18 @@ public final class PromiseTest {
         }
     }
 
-    private static int word(byte[] bytes, int at) {
-        int four = 0;
-        for (int k = 0; k < 4; k++) {
-            four = four << 8 | (at + k < bytes.length ? bytes[at + k] & 255 : 32);
-        }
-        return four;
-    }
-
-    private static void tell(GymDesk x, String text) {
-        byte[] bytes = text.getBytes(StandardCharsets.ISO_8859_1);
-        int have = x.end(0);
-        for (int at = 0; at < bytes.length; at += 20) {
-            have = x.feed(word(bytes, at), word(bytes, at + 4), word(bytes, at + 8), word(bytes, at + 12),
-                word(bytes, at + 16));
-        }
-        if (have < bytes.length || x.end(bytes.length) != bytes.length) {
-            throw new IllegalStateException("a test's text has no room: " + text.length());
-        }
-    }
-
-    private static int code(GymDesk x, String text) {
-        tell(x, text);
-        return x.code();
-    }
-
-    private static GymDesk under(String text) {
-        GymDesk x = new GymDesk();
-        if (code(x, text) < 0) {
-            throw new IllegalStateException("a test's code is none: " + text + " " + x.fault(0) + " " + x.fault(1));
-        }
-        return x;
-    }
-
     private static void good(String text, int parts) {
         GymDesk x = new GymDesk();
-        due("code of «" + text + "»", code(x, text), parts);
+        due("code of «" + text + "»", Desks.code(x, text), parts);
         due("fault kind of «" + text + "»", x.fault(0), 0);
         due("fault place of «" + text + "»", x.fault(1), -1);
     }
 
     private static void bad(String text, int kind, int place) {
         GymDesk x = new GymDesk();
-        due("code of «" + text + "»", code(x, text), -1);
+        due("code of «" + text + "»", Desks.code(x, text), -1);
         due("fault kind of «" + text + "»", x.fault(0), kind);
         due("fault place of «" + text + "»", x.fault(1), place);
-    }
-
-    /** A routine of a new gymnast of a land at an apparatus with these entries and the same mark of every judge. */
-    private static int perform(GymDesk x, int land, int a, int mark, int... entries) {
-        int g = x.enter(land);
-        performBy(x, g, a, mark, entries);
-        return g;
-    }
-
-    private static void performBy(GymDesk x, int g, int a, int mark, int... entries) {
-        x.begin(g, a);
-        for (int p : entries) {
-            x.entry(g, a, p);
-        }
-        for (int j = 0; j < x.count(3); j++) {
-            x.mark(g, a, j, mark);
-        }
     }
 
     private static void aNewObject() {
@@ -150,20 +98,20 @@ public final class PromiseTest {
 
     private static void codeTakesAText() {
         promise = 4;
-        GymDesk x = under("part a 3 in 0; panel 2 span 7; fault f 2; link a a 1; group 1 needs 2 worth 3; limit 4 of 2;"
+        GymDesk x = Desks.under("part a 3 in 0; panel 2 span 7; fault f 2; link a a 1; group 1 needs 2 worth 3; limit 4 of 2;"
             + "counts 5; short 6 less 7; team 2 of 1; final 3 land 4;");
         due("the tape is empty then", x.count(13), 0);
-        perform(x, 1, 0, 3, 0);
+        Desks.perform(x, 1, 0, 3, 0);
         x.post(0, 0, 9);
         x.inquire(0, 0, 10);
-        due("a code with a fault", code(x, "part b 1 in 1; part"), -1);
+        due("a code with a fault", Desks.code(x, "part b 1 in 1; part"), -1);
         due("the tape is empty then too", x.count(13), 0);
         due("the code stays", x.part(0, 0), 3);
         due("the panel stays", x.count(3), 2);
         due("the meeting stays", x.count(12), 1);
         due("the clock stays", x.count(14), 10);
         due("the score stays", x.routine(0, 0, 4), 1);
-        due("a second code", code(x, "part b 5 in 4; part c 6 in 4 as b;"), 2);
+        due("a second code", Desks.code(x, "part b 5 in 4; part c 6 in 4 as b;"), 2);
         due("nobody", x.count(12), 0);
         due("the clock is at first", x.count(14), 0);
         due("no postings", x.count(15), 0);
@@ -178,7 +126,7 @@ public final class PromiseTest {
         x.enter(1);
         due("no routine of the last meeting", x.routine(0, 0, 0), -9);
         due("none is withdrawn", x.withdraw(0, 0), 1);
-        due("an empty text", code(x, ""), 0);
+        due("an empty text", Desks.code(x, ""), 0);
         due("no parts then", x.part(0, 0), -1);
     }
 
@@ -186,11 +134,11 @@ public final class PromiseTest {
         promise = 4;
         String text = "part a 3 in 0; part b 4 in 1; fault f 2; fault h 3 each; link a b 1; short 2 less 3;"
             + "group 2 needs 1 worth 1; limit 1 of 3;";
-        GymDesk x = under(text);
+        GymDesk x = Desks.under(text);
         for (int g = 0; g < 3; g++) {
             x.enter(0);
             x.withdraw(g, 4);
-            performBy(x, g, 0, 9, 0, 1, 0);
+            Desks.performBy(x, g, 0, 9, 0, 1, 0);
             x.see(g, 0, 0, 0, 0);
             x.see(g, 0, 0, 1, 1);
         }
@@ -202,12 +150,12 @@ public final class PromiseTest {
             x.mark(1, 1, j, 30 * j);
         }
         due("some are asked", x.asked(1, 1), 13);
-        due("a code of less", code(x, "part a 3 in 0;"), 1);
-        due("the code of before once more", code(x, text), 2);
+        due("a code of less", Desks.code(x, "part a 3 in 0;"), 1);
+        due("the code of before once more", Desks.code(x, text), 2);
         due("its links alone", x.count(1), 1);
         due("its faults alone", x.count(2), 2);
         due("links from a", x.part(0, 3), 1);
-        due("a code of less once more", code(x, "part c 5 in 0;"), 1);
+        due("a code of less once more", Desks.code(x, "part c 5 in 0;"), 1);
         int[] first = {1, 0, 0, 4, 3, 8, 0, 0, 4, 3, 8, 2};
         for (int what = 0; what < first.length; what++) {
             due("count(" + what + ") of it", x.count(what), first[what]);
@@ -215,7 +163,7 @@ public final class PromiseTest {
         due("no needs", x.count(22), 0);
         due("nor their worth", x.count(32), 0);
         due("no limit", x.count(43), -1);
-        code(x, text);
+        Desks.code(x, text);
         for (int g = 0; g < 3; g++) {
             x.enter(7);
             due("none has withdrawn", x.withdraw(g, 4), 1);
@@ -383,21 +331,21 @@ public final class PromiseTest {
         good(links, 5);
         bad(links + "link xaa xaa", 4, links.length());
         GymDesk x = new GymDesk();
-        code(x, "x");
+        Desks.code(x, "x");
         due("fault(2)", x.fault(2), -1);
         due("fault(-1)", x.fault(-1), -1);
         due("a fault's kind", x.fault(0), 1);
-        code(x, "  counts 1; counts");
+        Desks.code(x, "  counts 1; counts");
         due("the latest fault's kind", x.fault(0), 5);
         due("the latest fault's place", x.fault(1), 12);
-        code(x, "counts 1;");
+        Desks.code(x, "counts 1;");
         due("none of the latest code", x.fault(0), 0);
         due("no place", x.fault(1), -1);
     }
 
     private static void part() {
         promise = 6;
-        GymDesk x = under("part a 3 in 0; part b 4 in 1 as a; part c 5 in 4 as b; part d 30 in 2; link b a 1;"
+        GymDesk x = Desks.under("part a 3 in 0; part b 4 in 1 as a; part c 5 in 4 as b; part d 30 in 2; link b a 1;"
             + "link b b 2; link d a 3;");
         int[][] parts = {{3, 0, 0, 0}, {4, 1, 0, 2}, {5, 4, 0, 0}, {30, 2, 3, 1}};
         for (int p = 0; p < 4; p++) {
@@ -428,7 +376,7 @@ public final class PromiseTest {
 
     private static void begin() {
         promise = 8;
-        GymDesk x = under("team 2 of 2;");
+        GymDesk x = Desks.under("team 2 of 2;");
         for (int land : new int[] {3, 3, 4, 3}) {
             x.enter(land);
         }
@@ -450,7 +398,7 @@ public final class PromiseTest {
 
     private static void entry() {
         promise = 9;
-        GymDesk x = under("part a 1 in 0; part b 2 in 0;");
+        GymDesk x = Desks.under("part a 1 in 0; part b 2 in 0;");
         x.enter(0);
         x.enter(0);
         x.begin(0, 0);
@@ -477,7 +425,7 @@ public final class PromiseTest {
 
     private static void mark() {
         promise = 10;
-        GymDesk x = under("panel 3 span 2;");
+        GymDesk x = Desks.under("panel 3 span 2;");
         x.enter(0);
         x.enter(0);
         x.begin(0, 1);
@@ -506,7 +454,7 @@ public final class PromiseTest {
 
     private static void asked() {
         promise = 11;
-        GymDesk x = under("panel 4 span 3;");
+        GymDesk x = Desks.under("panel 4 span 3;");
         x.enter(0);
         due("no gymnast", x.asked(1, 0), -2);
         due("no apparatus", x.asked(0, 4), -2);
@@ -527,7 +475,7 @@ public final class PromiseTest {
         int[][] panels = {{5}, {9, 3}, {1, 5, 9}, {7, 0, 3, 4, 1}, {20, 4, 0, 9, 9, 12}};
         int[] due = {0, 1, 5, 1, 7};
         for (int n = 0; n < panels.length; n++) {
-            x = under("panel " + panels[n].length + " span 3;");
+            x = Desks.under("panel " + panels[n].length + " span 3;");
             x.enter(0);
             x.begin(0, 0);
             for (int j = 0; j < panels[n].length; j++) {
@@ -539,7 +487,7 @@ public final class PromiseTest {
 
     private static void see() {
         promise = 12;
-        GymDesk x = under("part a 3 in 0; fault out 3; fault step 2 each;");
+        GymDesk x = Desks.under("part a 3 in 0; fault out 3; fault step 2 each;");
         x.enter(0);
         x.enter(0);
         x.begin(0, 2);
@@ -573,7 +521,7 @@ public final class PromiseTest {
 
     private static void post() {
         promise = 13;
-        GymDesk x = under("part a 3 in 0; fault f 50 each;");
+        GymDesk x = Desks.under("part a 3 in 0; fault f 50 each;");
         for (int g = 0; g < 5; g++) {
             x.enter(g);
         }
@@ -581,7 +529,7 @@ public final class PromiseTest {
         due("no apparatus", x.post(0, 4, 0), -2);
         due("ahead of the clock", x.post(0, 0, -1), -2);
         due("no routine", x.post(0, 0, 0), -1);
-        performBy(x, 0, 0, 7, 0);
+        Desks.performBy(x, 0, 0, 7, 0);
         due("posted", x.post(0, 0, 7), 300 + 10000 - 700);
         due("again", x.post(0, 0, 7), -1);
         due("the clock goes ahead of that", x.post(0, 0, 6), -2);
@@ -595,9 +543,9 @@ public final class PromiseTest {
         due("one is asked", x.post(1, 0, 8), -1);
         x.mark(1, 0, 3, 90);
         due("posted without entries, the same time", x.post(1, 0, 7), 10000);
-        performBy(x, 2, 0, 100, 0, 0, 0);
+        Desks.performBy(x, 2, 0, 100, 0, 0, 0);
         due("100 off", x.post(2, 0, Integer.MAX_VALUE), 300);
-        performBy(x, 3, 0, 100, 0, 0, 0);
+        Desks.performBy(x, 3, 0, 100, 0, 0, 0);
         x.see(3, 0, 0, 0, 1);
         due("not below 0", x.post(3, 0, Integer.MAX_VALUE), 0);
         due("the clock", x.count(14), Integer.MAX_VALUE);
@@ -610,7 +558,7 @@ public final class PromiseTest {
         int[][] panels = {{37}, {1, 2}, {1, 1, 3}, {0, 1, 2, 3}, {5, 5, 6, 7, 8}, {1, 2, 3, 4, 5, 5}};
         int[] due = {3700, 150, 166, 150, 600, 350};
         for (int n = 0; n < panels.length; n++) {
-            GymDesk x = under("panel " + panels[n].length + " span 50;");
+            GymDesk x = Desks.under("panel " + panels[n].length + " span 50;");
             x.enter(0);
             x.begin(0, 0);
             for (int j = 0; j < panels[n].length; j++) {
@@ -622,7 +570,7 @@ public final class PromiseTest {
     }
 
     private static void choice(String text, int worth, int choice, int... entries) {
-        GymDesk x = under(text);
+        GymDesk x = Desks.under(text);
         x.enter(0);
         x.begin(0, 0);
         for (int p : entries) {
@@ -677,7 +625,7 @@ public final class PromiseTest {
             text.append("part ").append((char) ('a' + p)).append(' ').append(p < 8 ? 5 : 6).append(" in ")
                 .append(p % 5).append(';');
         }
-        GymDesk x = under(text + "counts 10; limit 2 of 0; link a b 9;");
+        GymDesk x = Desks.under(text + "counts 10; limit 2 of 0; link a b 9;");
         x.enter(0);
         x.begin(0, 0);
         for (int p = 0; p < 16; p++) {
@@ -694,7 +642,7 @@ public final class PromiseTest {
         for (int p = 0; p < 16; p++) {
             text.append("part ").append((char) ('a' + p)).append(" 1 in ").append(p % 5).append(';');
         }
-        GymDesk x = under(text + "counts 10;");
+        GymDesk x = Desks.under(text + "counts 10;");
         x.enter(0);
         x.begin(0, 0);
         for (int p = 0; p < 16; p++) {
@@ -702,7 +650,7 @@ public final class PromiseTest {
             due("D of " + (p + 1), x.routine(0, 0, 1), Math.min(p + 1, 10));
             due("choice of " + (p + 1), x.routine(0, 0, 2), (1 << Math.min(p + 1, 10)) - 1);
         }
-        GymDesk y = under(text + "counts 10; group 4 needs 3 worth 1; link o p 1; limit 3 of 0;");
+        GymDesk y = Desks.under(text + "counts 10; group 4 needs 3 worth 1; link o p 1; limit 3 of 0;");
         y.enter(0);
         y.begin(0, 0);
         for (int p = 0; p < 16; p++) {
@@ -715,7 +663,7 @@ public final class PromiseTest {
 
     private static void routine() {
         promise = 14;
-        GymDesk x = under("part a 3 in 0; part b 4 in 1 as a; part c 5 in 1; fault f 1;");
+        GymDesk x = Desks.under("part a 3 in 0; part b 4 in 1 as a; part c 5 in 1; fault f 1;");
         x.enter(0);
         for (int what = -1; what < 40; what++) {
             due("no routine's " + what, x.routine(0, 0, what), -9);
@@ -749,12 +697,12 @@ public final class PromiseTest {
 
     private static void inquire() {
         promise = 15;
-        GymDesk x = under("part a 3 in 0;");
+        GymDesk x = Desks.under("part a 3 in 0;");
         due("no gymnast", x.inquire(0, 0, 0), -2);
-        perform(x, 5, 0, 0, 0);
-        perform(x, 5, 0, 0, 0);
-        perform(x, 6, 0, 0, 0);
-        perform(x, 6, 0, 0, 0);
+        Desks.perform(x, 5, 0, 0, 0);
+        Desks.perform(x, 5, 0, 0, 0);
+        Desks.perform(x, 6, 0, 0, 0);
+        Desks.perform(x, 6, 0, 0, 0);
         due("no apparatus", x.inquire(0, -1, 0), -2);
         due("no routine", x.inquire(0, 1, 0), -1);
         due("not posted", x.inquire(0, 0, 0), -1);
@@ -779,8 +727,8 @@ public final class PromiseTest {
 
     private static void answer() {
         promise = 16;
-        GymDesk x = under("part a 3 in 0; part b 9 in 0; part c 3 in 1; part d 1 in 1; fault f 2;");
-        int g = perform(x, 5, 3, 1, 0, 2, -1, 0);
+        GymDesk x = Desks.under("part a 3 in 0; part b 9 in 0; part c 3 in 1; part d 1 in 1; fault f 2;");
+        int g = Desks.perform(x, 5, 3, 1, 0, 2, -1, 0);
         due("nothing to answer", x.answer(g, 3, 0, 1), -1);
         x.see(g, 3, 0, 0, 0);
         x.post(g, 3, 4);
@@ -805,7 +753,7 @@ public final class PromiseTest {
         due("the fee came back", x.fees(5), 0);
         due("when it was posted stays", x.routine(g, 3, 10), 4);
         due("answered once", x.answer(g, 3, 0, 0), -1);
-        int h = perform(x, 5, 3, 1, 0, 2, -1, 0);
+        int h = Desks.perform(x, 5, 3, 1, 0, 2, -1, 0);
         x.post(h, 3, 4);
         x.inquire(h, 3, 4);
         due("no greater", x.answer(h, 3, 3, 1), 0);
@@ -813,7 +761,7 @@ public final class PromiseTest {
         due("told not granted", x.routine(h, 3, 5), 3);
         due("the fee is gone", x.fees(5), 1);
         due("answered", x.answer(h, 3, 0, 1), -1);
-        int k = perform(x, 6, 3, 1, 0, 2);
+        int k = Desks.perform(x, 6, 3, 1, 0, 2);
         x.post(k, 3, 4);
         x.inquire(k, 3, 4);
         due("the same D", x.answer(k, 3, 0, 0), 0);
@@ -824,19 +772,19 @@ public final class PromiseTest {
 
     private static void answerOfRepeats() {
         promise = 16;
-        GymDesk x = under("part a 3 in 0; part b 9 in 0; part c 4 in 1; short 3 less 20; team 6 of 6;");
-        int g = perform(x, 5, 0, 0, 0, 0);
+        GymDesk x = Desks.under("part a 3 in 0; part b 9 in 0; part c 4 in 1; short 3 less 20; team 6 of 6;");
+        int g = Desks.perform(x, 5, 0, 0, 0, 0);
         x.post(g, 0, 0);
         x.inquire(g, 0, 0);
         due("D stays 0", x.answer(g, 0, 1, 2), 0);
         due("repeats stay", x.routine(g, 0, 7), 1);
         due("the choice stays", x.routine(g, 0, 2), 1);
-        int h = perform(x, 5, 0, 0, 0, 0, 1, 2);
+        int h = Desks.perform(x, 5, 0, 0, 0, 0, 1, 2);
         due("repeats", x.routine(h, 0, 7), 1);
         x.post(h, 0, 0);
         x.inquire(h, 0, 0);
         due("a repeat held for a part ahead of it", x.answer(h, 0, 0, 2), 0);
-        int k = perform(x, 5, 0, 0, 0, 0, 1);
+        int k = Desks.perform(x, 5, 0, 0, 0, 0, 1);
         x.post(k, 0, 0);
         due("short", x.routine(k, 0, 1), 0);
         x.inquire(k, 0, 0);
@@ -847,7 +795,7 @@ public final class PromiseTest {
 
     private static void withdraw() {
         promise = 17;
-        GymDesk x = under("team 1 of 1;");
+        GymDesk x = Desks.under("team 1 of 1;");
         due("no gymnast", x.withdraw(0, 0), -2);
         x.enter(0);
         due("list 5", x.withdraw(0, 5), -2);
@@ -858,7 +806,7 @@ public final class PromiseTest {
             due("again from " + a, x.withdraw(0, a), -1);
         }
         for (int a = 0; a < 4; a++) {
-            performBy(x, 0, a, 0);
+            Desks.performBy(x, 0, a, 0);
             x.post(0, a, 0);
             due("stands in no list", x.list(a), 0);
             due("counts for the land", x.land(0, a), 10000);
@@ -869,7 +817,7 @@ public final class PromiseTest {
 
     /** Four gymnasts of two lands, at all apparatuses: the last begins at three only. */
     private static GymDesk meeting() {
-        GymDesk x = under("part a 3 in 0; part b 1 in 0; part c 4 in 0; team 2 of 1; final 2 land 1;");
+        GymDesk x = Desks.under("part a 3 in 0; part b 1 in 0; part c 4 in 0; team 2 of 1; final 2 land 1;");
         int[] lands = {1, 1, 2, 2};
         for (int land : lands) {
             x.enter(land);
@@ -878,7 +826,7 @@ public final class PromiseTest {
         for (int g = 0; g < 4; g++) {
             for (int a = 0; a < 4; a++) {
                 if (g != 3 || a != 3) {
-                    performBy(x, g, a, marks[g][a], g == 2 && a == 0 ? 0 : 1);
+                    Desks.performBy(x, g, a, marks[g][a], g == 2 && a == 0 ? 0 : 1);
                     x.post(g, a, 0);
                 }
             }
@@ -895,7 +843,7 @@ public final class PromiseTest {
         }
         due("list(5)", x.list(5), -2);
         due("list(-1)", x.list(-1), -2);
-        performBy(x, 3, 3, 0, 1);
+        Desks.performBy(x, 3, 3, 0, 1);
         due("not posted", x.list(3), 3);
         due("not all posted", x.list(4), 3);
         x.post(3, 3, 0);
@@ -943,11 +891,11 @@ public final class PromiseTest {
 
     private static void placesOfLikes() {
         promise = 19;
-        GymDesk x = under("part a 1 in 0; part b 2 in 0; part c 30 in 0; fault f 1; fault h 2; panel 1 span 0; team 6 of 6;");
+        GymDesk x = Desks.under("part a 1 in 0; part b 2 in 0; part c 30 in 0; fault f 1; fault h 2; panel 1 span 0; team 6 of 6;");
         int[] part = {0, 1, 2, 1, 0};
         int[] mark = {10, 20, 20, 10, 10};
         for (int g = 0; g < 5; g++) {
-            perform(x, g, 0, mark[g], part[g]);
+            Desks.perform(x, g, 0, mark[g], part[g]);
         }
         x.see(3, 0, 0, 0, 0);
         for (int g = 0; g < 5; g++) {
@@ -973,16 +921,16 @@ public final class PromiseTest {
         due("the next moves up", x.finalist(0, 0), 1);
         GymDesk y = new GymDesk();
         for (int n = 0; n < 12; n++) {
-            perform(y, n / 3, 0, n);
+            Desks.perform(y, n / 3, 0, n);
             y.post(n, 0, 0);
         }
         int[] due = {0, 1, 3, 4, 6, 7, 9, 10, -1};
         for (int i = 0; i < due.length; i++) {
             due("eight, two of a land: " + i, y.finalist(0, i), due[i]);
         }
-        GymDesk z = under("final 3 land 3; team 6 of 6;");
+        GymDesk z = Desks.under("final 3 land 3; team 6 of 6;");
         for (int n = 0; n < 5; n++) {
-            perform(z, 7, 0, n);
+            Desks.perform(z, 7, 0, n);
             z.post(n, 0, 0);
         }
         due("full", z.finalist(0, 2), 2);
@@ -992,12 +940,12 @@ public final class PromiseTest {
 
     private static void land() {
         promise = 21;
-        GymDesk x = under("team 3 of 2;");
+        GymDesk x = Desks.under("team 3 of 2;");
         int[] marks = {5, 1, 3};
         for (int g = 0; g < 3; g++) {
-            perform(x, 9, 0, marks[g]);
+            Desks.perform(x, 9, 0, marks[g]);
             x.post(g, 0, 0);
-            performBy(x, g, 2, 10);
+            Desks.performBy(x, g, 2, 10);
         }
         due("the best two", x.land(9, 0), 9900 + 9700);
         due("none posted", x.land(9, 2), 0);
@@ -1012,10 +960,10 @@ public final class PromiseTest {
         due("apparatus -1", x.land(0, -1), -2);
         x.withdraw(1, 0);
         due("the best two still", x.land(9, 0), 9900 + 9700);
-        GymDesk y = under("team 6 of 4;");
+        GymDesk y = Desks.under("team 6 of 4;");
         int[] six = {40, 10, 30, 20, 60, 50};
         for (int g = 0; g < 6; g++) {
-            perform(y, 0, 3, six[g]);
+            Desks.perform(y, 0, 3, six[g]);
             y.post(g, 3, 0);
         }
         due("the best four of six", y.land(0, 3), 40000 - 10000);
@@ -1027,7 +975,7 @@ public final class PromiseTest {
         int[] lands = {3, 5, 7, 7};
         int[] marks = {2, 2, 1, 1};
         for (int g = 0; g < 4; g++) {
-            perform(x, lands[g], g, marks[g]);
+            Desks.perform(x, lands[g], g, marks[g]);
             x.post(g, g, 0);
         }
         due("the greatest", x.standing(7), 1);
@@ -1040,7 +988,7 @@ public final class PromiseTest {
 
     private static void count() {
         promise = 23;
-        GymDesk x = under("part a 3 in 0; part b 3 in 0; part c 3 in 0; link a b 1; link a a 1; fault f 2;"
+        GymDesk x = Desks.under("part a 3 in 0; part b 3 in 0; part c 3 in 0; link a b 1; link a a 1; fault f 2;"
             + "panel 2 span 7; counts 5; short 6 less 9; team 3 of 2; final 10 land 6;"
             + "group 1 needs 2 worth 3; group 4 needs 10 worth 20; limit 0 of 0; limit 7 of 4;");
         int[] due = {3, 2, 1, 2, 7, 5, 6, 9, 3, 2, 10, 6, 0, 0, 0, 0, -1, -1, -1, -1, 0, 2, 0, 0, 10, -1, -1, -1, -1, -1,
@@ -1053,8 +1001,8 @@ public final class PromiseTest {
         due("count(most)", x.count(Integer.MAX_VALUE), -1);
         x.feed(0, 0, 0, 0, 0);
         due("bytes", x.count(13), 20);
-        perform(x, 0, 0, 0);
-        perform(x, 0, 0, 0);
+        Desks.perform(x, 0, 0, 0);
+        Desks.perform(x, 0, 0, 0);
         due("gymnasts", x.count(12), 2);
         due("none posted", x.count(15), 0);
         x.post(1, 0, 6);
@@ -1068,9 +1016,9 @@ public final class PromiseTest {
 
     private static void fees() {
         promise = 24;
-        GymDesk x = under("part a 1 in 0; part b 2 in 0;");
+        GymDesk x = Desks.under("part a 1 in 0; part b 2 in 0;");
         for (int n = 0; n < 3; n++) {
-            perform(x, 4, 0, 0, 0);
+            Desks.perform(x, 4, 0, 0, 0);
             x.post(n, 0, 0);
             due("ahead of inquiry " + n, x.fees(4), n);
             x.inquire(n, 0, 0);
