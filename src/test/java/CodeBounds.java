@@ -77,6 +77,10 @@ final class CodeBounds {
         sheet.good(Desks.blanks(3000 - last.length()) + last, 0);
         sheet.bad(Desks.blanks(2999) + "x", SYNTAX, 2999);
         sheet.bad("counts" + Desks.blanks(2994), SYNTAX, 3000);
+        sheet.bad(Desks.blanks(2992) + "counts 9", SYNTAX, 3000);
+        sheet.bad(Desks.blanks(2991) + "counts 11", RANGE, 2998);
+        sheet.bad(Desks.blanks(2994) + "counts", SYNTAX, 3000);
+        sheet.bad(Desks.blanks(2990) + "abcdefghij", SYNTAX, 2990);
         blanksBetween();
         wordsAndNumbers();
         fullestCode();
@@ -114,6 +118,9 @@ final class CodeBounds {
         sheet.bad("parta 3 in 0;", SYNTAX, 0);
         sheet.bad("pa rt a 3 in 0;", SYNTAX, 0);
         sheet.bad("part {", SYNTAX, 5);
+        sheet.bad("part a 1 in 0; link {", SYNTAX, 20);
+        sheet.bad("part a 1 in 0; link a {", SYNTAX, 22);
+        sheet.bad("part a 1 in 0; link `", SYNTAX, 20);
         sheet.bad("part `", SYNTAX, 5);
         sheet.bad("part A", SYNTAX, 5);
         sheet.bad("part Z", SYNTAX, 5);
@@ -472,6 +479,11 @@ final class CodeBounds {
             sheet.due("bytes", x.count(13), n);
             sheet.due("code of the first " + n, x.code(), n > 9 ? -1 : 0);
         }
+        cut("counts 12;", 8, SYNTAX, 8);
+        cut("counts 1;", 8, SYNTAX, 8);
+        cut("part ab 1 in 0; part a 1 in 0; link ab b 1;", 40, NAME, 39);
+        cut("part a 1 in 0; link ab a 1;", 21, SYNTAX, 21);
+        cut("counts 1;;", 9, 0, -1);
         sheet.says("NONE when it has not so many, or n is below 0.");
         GymDesk x = new GymDesk();
         sheet.due("end(0) of none", x.end(0), 0);
@@ -490,37 +502,29 @@ final class CodeBounds {
         sheet.due("end(3000) of 3000", x.end(3000), 3000);
     }
 
+    /** The fault of a text that is fed whole and then cut. */
+    private void cut(String text, int n, int kind, int place) {
+        GymDesk x = new GymDesk();
+        Desks.tell(x, text);
+        sheet.due("end(" + n + ") of «" + text + "»", x.end(n), n);
+        sheet.due("its code", x.code() == -1 ? 1 : 0, kind == 0 ? 0 : 1);
+        sheet.due("kind", x.fault(0), kind);
+        sheet.due("place", x.fault(1), place);
+    }
+
     private void promise4() {
         sheet.section("Promise 4: code");
         sheet.says("THE TAPE (empty then) is a code: how many parts;");
         GymDesk x = new GymDesk();
         for (int n = 0; n <= 30; n++) {
+            x = n % 10 == 0 ? new GymDesk() : x;
             sheet.due("code of " + n + " parts", Desks.code(x, Desks.parts(n, 1, 0)), n);
             sheet.due("bytes then", x.count(13), 0);
             sheet.due("end(1) then", x.end(1), -1);
         }
         sheet.due("code of the empty tape", x.code(), 0);
         sheet.says("all is as at first but for it (numbers that it doesn't tell, too).");
-        String full = Desks.parts(3, 1, 0) + Desks.links(2, 3) + Desks.faults(2, 1) + "panel 1 span 7; counts 9;"
-            + "short 2 less 3; team 5 of 4; final 7 land 6; group 0 needs 1 worth 2; limit 3 of 0;"
-            + "group 4 needs 1 worth 2; limit 3 of 4;";
-        x = Desks.under(full);
-        int g = Desks.perform(x, 9, 3, 5, 0, 1);
-        x.see(g, 3, 0, 1, 1);
-        x.post(g, 3, 9);
-        x.inquire(g, 3, 9);
-        x.withdraw(g, 3);
-        sheet.due("a code of one part", Desks.code(x, "part a 1 in 0;"), 1);
-        asAtFirst(x, 1);
-        sheet.due("links of it", x.part(0, 3), 0);
-        sheet.due("the second part", x.part(1, 0), -1);
-        sheet.due("fees", x.fees(9), 0);
-        sheet.due("list", x.list(3), 0);
-        sheet.due("land", x.land(9, 4), 0);
-        sheet.due("the first gymnast anew", x.enter(9), 0);
-        sheet.due("no routine of it", x.routine(0, 3, 0), -9);
-        sheet.due("not withdrawn", x.withdraw(0, 3), 1);
-        sheet.due("a time of 0", x.post(0, 3, 0), -1);
+        asAtFirstBehindEachCode();
         sheet.says("NONE with a FAULT.");
         x = Desks.under("part a 9 in 4; panel 2 span 7;");
         sheet.due("a text with a fault", Desks.code(x, "part b 1 in 0; x"), -1);
@@ -528,6 +532,85 @@ final class CodeBounds {
         sheet.due("the part told ahead of the fault isn't there", x.part(0, 0), 9);
         sheet.due("a text cut", Desks.code(x, "part b 1 in 0"), -1);
         sheet.due("the empty text is without", x.code(), 0);
+    }
+
+    /** Codes in turn, so that nothing of any earlier one or of its meeting is left. */
+    private void asAtFirstBehindEachCode() {
+        String full = Desks.parts(3, 1, 0) + Desks.links(2, 3) + Desks.faults(2, 1) + "panel 2 span 7; counts 9;"
+            + "short 2 less 3; team 5 of 4; final 7 land 6;";
+        for (int g = 0; g < 5; g++) {
+            full += "group " + g + " needs 1 worth 2; limit 3 of " + g + ";";
+        }
+        GymDesk x = Desks.under(full);
+        meet(x);
+        sheet.due("the same code once more", Desks.code(x, full), 3);
+        nobodyIsLeft(x);
+        x = new GymDesk();
+        for (int turn = 0; turn < 3; turn++) {
+            sheet.due("a full code", Desks.code(x, full), 3);
+            sheet.due("links of it", x.part(0, 3), 2);
+            sheet.due("faults of it", x.count(2), 2);
+            meet(x);
+            sheet.due("a code of one part", Desks.code(x, "part a 1 in 0;"), 1);
+            if (turn == 0) {
+                asAtFirst(x, 1);
+            }
+            sheet.due("links of it", x.part(0, 3), 0);
+            sheet.due("links", x.count(1), 0);
+            sheet.due("faults", x.count(2), 0);
+            sheet.due("the second part", x.part(1, 0), -1);
+            nobodyIsLeft(x);
+        }
+        for (int turn = 0; turn < 2; turn++) {
+            Desks.code(x, "");
+            asAtFirst(x, 0);
+        }
+    }
+
+    /** A meeting of one gymnast of land 0 with two routines that are told of all there is. */
+    private static void meet(GymDesk x) {
+        x.enter(0);
+        for (int a = 0; a < 2; a++) {
+            x.begin(0, a);
+            x.entry(0, a, 0);
+            x.entry(0, a, 1);
+            x.see(0, a, 0, 0, 0);
+            x.see(0, a, 0, 1, 1);
+            x.mark(0, a, 0, 0);
+            x.mark(0, a, 1, 60);
+            x.withdraw(0, a);
+        }
+        x.withdraw(0, 4);
+        x.mark(0, 0, 1, 60);
+        x.post(0, 0, 9);
+        x.inquire(0, 0, 9);
+    }
+
+    private void nobodyIsLeft(GymDesk x) {
+        sheet.due("gymnasts", x.count(12), 0);
+        sheet.due("the latest time", x.count(14), 0);
+        sheet.due("posted", x.count(15), 0);
+        sheet.due("no gymnast", x.begin(0, 0), -2);
+        sheet.due("fees", x.fees(0), 0);
+        sheet.due("list", x.list(0), 0);
+        sheet.due("land", x.land(0, 4), 0);
+        sheet.due("the first gymnast anew", x.enter(0), 0);
+        for (int a = 0; a < 2; a++) {
+            sheet.due("no routine of it", x.routine(0, a, 0), -9);
+            sheet.due("not withdrawn", x.withdraw(0, a), 1);
+            sheet.due("begun", x.begin(0, a), 1);
+            int[] fresh = {0, 0, 0, 0, 0, 0, 0, 0, -9, -9, -9};
+            for (int what = 2; what < fresh.length; what++) {
+                sheet.due("what " + what + " of it", x.routine(0, a, what), fresh[what]);
+            }
+            sheet.due("D of it", x.routine(0, a, 1), 0);
+            sheet.due("entries of it", x.routine(0, a, 0), 0);
+            sheet.due("asked", x.asked(0, a), 0);
+            sheet.due("no score of it", x.land(0, a), 0);
+            sheet.due("judge 1 hasn't marked", x.mark(0, a, 1, 5), 1);
+        }
+        sheet.due("not withdrawn from all", x.withdraw(0, 4), 1);
+        sheet.due("a time of 0, marks wanting", x.post(0, 0, 0), -1);
     }
 
     private void promise5() {

@@ -95,7 +95,7 @@ final class ListBounds {
     }
 
     private void fortyInOrder() {
-        GymDesk x = Desks.under("panel 1 span 0; team 6 of 6;");
+        GymDesk x = Desks.under("panel 1 span 0;");
         for (int g = 0; g < 40; g++) {
             Desks.perform(x, g % 10, 0, 99 - 2 * g);
             x.post(g, 0, 0);
@@ -106,6 +106,11 @@ final class ListBounds {
         }
         sheet.due("the place told of the last", x.place(0, 39, 2), 40);
         sheet.due("no 41st", x.place(0, 40, 0), -1);
+        for (int land = 0; land < 10; land++) {
+            // Gymnasts land + 10, + 20 and + 30 have its best three scores of four.
+            sheet.due("score of land " + land, x.land(land, 0), 3 * (100 + 200 * land) + 200 * 60);
+            sheet.due("standing of land " + land, x.standing(land), 10 - land);
+        }
     }
 
     /** A gymnast of a land with four posted routines, of these parts and marks. */
@@ -146,6 +151,23 @@ final class ListBounds {
         sheet.due("it is the first still", x.place(4, 0, 0), 1);
         x.withdraw(1, 4);
         places(x, 4, 0, 3, 4, 0, 2);
+        sheet.due("as many as 512 calls can bring", allAroundAsManyAsCanBe().list(4), 39);
+        sheet.due("the last of them", allAroundAsManyAsCanBe().place(4, 38, 1), 38000);
+        sheet.due("no place behind it", allAroundAsManyAsCanBe().place(4, 39, 1), -1);
+    }
+
+    /** Four calls for the code and 13 a gymnast: the 512th is left. The scores of gymnast 38 are the least. */
+    private static GymDesk allAroundAsManyAsCanBe() {
+        GymDesk x = Desks.under("panel 1 span 0;");
+        for (int n = 0; n < 39; n++) {
+            int g = x.enter(n % 10);
+            for (int a = 0; a < 4; a++) {
+                x.begin(g, a);
+                x.mark(g, a, 0, n == 38 ? 5 : 4);
+                x.post(g, a, 0);
+            }
+        }
+        return x;
     }
 
     private void finalists(GymDesk x, int a, int... due) {

@@ -45,6 +45,7 @@ final class MeetingBounds {
         GymDesk x = Desks.routine(text, entries);
         sheet.due("D under «" + text + "»", x.routine(0, 0, 1), worth);
         sheet.due("CHOICE under «" + text + "»", x.routine(0, 0, 2), choice);
+        sheet.due("CHOICE alone", Desks.routine(text, entries).routine(0, 0, 2), choice);
     }
 
     private void numbersOfTheMeeting() {
@@ -261,6 +262,13 @@ final class MeetingBounds {
         worth("part a 2 in 0; part b 2 in 1; part c 2 in 2; link a b 1; link b c 2;", 9, 0, 1, 2);
         String far = Desks.parts(16, 1, 0) + "link xao xap 9; counts 10;";
         choice(far, 19, 0xc000 | 255, Desks.run(16));
+        String most = Desks.parts(21, 1, 0);
+        for (int p = 0; p < 20; p++) {
+            most += "link " + Desks.name(p) + " " + Desks.name(p + 1) + " 9;";
+        }
+        worth(most, 11, 19, 20);
+        worth(most, 2, 20, 19);
+        worth(most, 8 + 63, 20, 0, 1, 2, 3, 4, 5, 6, 7);
     }
 
     /** The marks of a panel of as many judges as marks, told in order; which judges are asked then. */
@@ -401,6 +409,10 @@ final class MeetingBounds {
         scoreOf(text, 34, new int[] {52, 52, 51}, 0, 1);
         scoreOf(text, 0, new int[] {52, 52, 52}, 0, 1);
         scoreOf(text, 0, new int[] {53, 52, 52}, 0, 1);
+        String six = text.replace("panel 3", "panel 6");
+        scoreOf(six, 25, new int[] {51, 52, 52, 52, 51, 52}, 0, 1);
+        scoreOf(six, 0, new int[] {52, 52, 52, 52, 52, 52}, 0, 1);
+        scoreOf(six, 0, new int[] {52, 52, 52, 53, 52, 53}, 0, 1);
         scoreOf(text, 0, new int[] {100, 100, 100}, 0, 1, 2);
         sheet.says("fault: N 1 .. 50 off, once a routine, or with each once an entry.");
         faultsSeen();
