@@ -10,7 +10,6 @@ final class ListBounds {
     }
 
     void run() {
-        calls();
         ordersOfLists();
         listOfAll();
         finals();
@@ -22,20 +21,6 @@ final class ListBounds {
         promise21();
         promise22();
         promise24();
-    }
-
-    private void calls() {
-        sheet.section("What it is");
-        sheet.passesOver("A desk of judges of gymnasts: a code in a text tells parts with worths and groups, links, what"
-            + " counts as one, what is taken off; a routine's worth is the greatest lawful choice of its parts, marks come"
-            + " from a panel whose strays are asked anew, faults count once whoever saw them, scores are posted, inquired"
-            + " after and mended, teams and finals follow.");
-        sheet.says("An object is used for at most 512 calls after it has been made; what later calls answer is free.");
-        GymDesk x = new GymDesk();
-        for (int n = 1; n <= 511; n++) {
-            sheet.due("call " + n, x.enter(n % 10), n <= 40 ? n - 1 : -3);
-        }
-        sheet.due("call 512", x.count(12), 40);
     }
 
     /** A code of one judge and a part of each worth from 1 on: part p is worth p + 1. */

@@ -11,6 +11,8 @@ import java.util.Map;
  * the document, section by section: each must stand there, and no word there may stand in none of them.
  */
 final class Sheet {
+    private static final String TITLE = "# GymDesk";
+
     private final Map<String, List<String>> sentences = new LinkedHashMap<>();
     private String section = "";
     private String sentence = "";
@@ -89,8 +91,7 @@ final class Sheet {
         for (String part : document.split("\n## ")) {
             int line = part.indexOf('\n');
             String heading = line < 0 ? part : part.substring(0, line);
-            boolean bound = heading.equals("Terms") || heading.startsWith("Promise ");
-            if (bound && !sentences.containsKey(heading)) {
+            if (!heading.equals(TITLE) && !sentences.containsKey(heading)) {
                 wrong++;
                 System.out.println("no sentence of " + heading);
             }
@@ -101,7 +102,7 @@ final class Sheet {
     }
 
     private static String plain(String text) {
-        return text.replace("```text", " ").replace("```", " ").replaceAll("\\s+", " ");
+        return text.replaceAll("```[a-z]*|\\s+", " ").replaceAll(" +", " ");
     }
 
     private static String behindSignature(String text) {
